@@ -137,7 +137,7 @@ public final class EggTown {
     }
 
     public int clean() {
-        return now.eggs.throwAway();
+        return now.eggs.sweepOut();
     }
 
     public int feed(int a, int b, int c, int d, int e) {
@@ -403,9 +403,9 @@ public final class EggTown {
         int best = 0;
         int most = NONE;
         for (int x = 0; x <= h && h + x <= FLOCK_HENS; x++) {
-            int yield = h - x + hours[h + x];
-            if (yield > most) {
-                most = yield;
+            int inAll = h - x + hours[h + x];
+            if (inAll > most) {
+                most = inAll;
                 best = x;
             }
         }
@@ -743,7 +743,7 @@ public final class EggTown {
         }
 
         int sign() {
-            return at < end ? byteAt(at) : NONE;
+            return at >= 0 && at < end && at < size ? bytes[at] : NONE;
         }
 
         boolean takes(int sign) {
@@ -906,7 +906,7 @@ public final class EggTown {
             }
         }
 
-        int throwAway() {
+        int sweepOut() {
             int whole = 0;
             for (int i = 0; i < size; i++) {
                 if (state[i] == WHOLE) {
