@@ -1556,6 +1556,7 @@ public final class EggTown {
         private final int[] worth = new int[PLAN_WORKS];
         private final int[] fit = new int[PLAN_WORKS * PLAN_SETS];
         private final int[] fits = new int[PLAN_WORKS];
+        private final int[] fewest = new int[PLAN_WORKS];
         private final int[] row = new int[PLAN_WORKS];
         private final int[] bestRow = new int[PLAN_WORKS];
 
@@ -1583,10 +1584,12 @@ public final class EggTown {
                 towards[k] = law.ofEgg(TOWARDS, town, eggs[k], work);
             }
             fits[works] = 0;
+            fewest[works] = PLAN_EGGS;
             for (int bits = 1; bits < 1 << size; bits++) {
                 if (isFit(bits, missing) && fits[works] < PLAN_SETS) {
                     fit[works * PLAN_SETS + fits[works]] = bits;
                     fits[works]++;
+                    fewest[works] = Math.min(fewest[works], Integer.bitCount(bits));
                 }
             }
         }
@@ -1616,6 +1619,9 @@ public final class EggTown {
             }
             row[k] = 0;
             choose(k + 1, free, had, hoped - worth[k], used);
+            if (Integer.bitCount(free) < fewest[k]) {
+                return;
+            }
             for (int j = 0; j < fits[k]; j++) {
                 int bits = fit[k * PLAN_SETS + j];
                 if ((bits & ~free) == 0) {

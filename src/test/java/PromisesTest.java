@@ -243,6 +243,9 @@ public final class PromisesTest {
         }
         b.append("(1=1)");
         due("240 bytes", Checks.law(x, b.toString()), 1);
+        Checks.feed(x, new int[260]);
+        due("241 bytes", x.law(241), -1);
+        due("the tape stays", x.count(6), 260);
         EggTown y = town("l60(1=1);l70(1=1);l80(d=0)");
         y.days(1);
         due("the first that holds", y.egg(0, 0), 60);
@@ -290,6 +293,7 @@ public final class PromisesTest {
         due("<", lays("9", "1<2"), 9);
         due("< not", lays("9", "2<2"), 0);
         due(">", lays("9", "2>1"), 9);
+        due("> not", lays("9", "2>2"), 0);
         due("= not", lays("9", "2=1"), 0);
         due("! ", lays("9", "!2=1"), 9);
         due("!!", lays("9", "!!2=1"), 0);
@@ -405,7 +409,11 @@ public final class PromisesTest {
         due("n 141", y.acts(141), -1);
         due("n 21", y.acts(21), -1);
         due("the tape stays", y.count(6), 20);
-        due("fault", y.acts(1), -1000);
+        Checks.feed(y, new int[200]);
+        due("141 bytes", y.acts(141), -1);
+        due("141 bytes judged", y.judged(141), -1);
+        due("the tape stays, still", y.count(6), 220);
+        due("fault", y.acts(140), -1000);
         due("empty", y.count(6), 0);
     }
 
@@ -436,6 +444,9 @@ public final class PromisesTest {
         actsFault("(0+", 1, 3);
         actsFault("(0)", 1, 3);
         actsFault("(0,1).", 1, 2);
+        actsFault("(0.", 1, 2);
+        actsFault("(0>1", 1, 2);
+        actsFault("(0+1*", 1, 4);
         actsFault("((0)).", 1, 1);
         actsFault("0+1.", 1, 1);
         actsFault("(0+48+0).", 3, 3);
@@ -715,6 +726,17 @@ public final class PromisesTest {
         due("the least bits", x.plan(0, 2, 11), 1);
         Checks.acts(x, "3!1");
         due("one is done", x.plan(0, 3, 0), -2);
+        due("one that is done, what wrong", x.plan(0, 3, 2), -1);
+        EggTown few = withEggs("tm(1=1)", 30, 30, 60, 5);
+        few.work(0, 60, 5, 9);
+        few.work(1, 5, 5, 9);
+        due("fewer eggs come ahead of the least row", few.plan(0, 1, 10), 4);
+        due("one egg", few.plan(0, 1, 1), 1);
+        Checks.acts(few, "3!1");
+        due("the second is done", few.plan(0, 3, 0), -2);
+        few.work(1, 5, 5, 9);
+        Checks.acts(few, "2!0");
+        due("the first is done", few.plan(0, 3, 0), -2);
         due("nothing changed", x.count(2), 2);
         EggTown y = withEggs("tm(1=1)", 9, 9, 9, 9, 9, 9, 9, 9, 9, 9, 90);
         y.work(0, 91, 1, 9);
@@ -854,6 +876,15 @@ public final class PromisesTest {
         due("nobody is the lowest", hoards(y, 1, 50, 50), 0);
         EggTown z = town("pn*30+y+k+r+m+a+c+o+i(1=1)");
         due("nothing else is told in p", hoards(z, 1, 30, 60), 0);
+        z.days(3);
+        Checks.law(z, "pn*30+y+k+r+m+a+c+o+i(1=1)");
+        due("nor behind days", hoards(z, 1, 30, 60), 0);
+        due("that is so for all rows", hoards(z, 0, 29, 60), 2);
+        EggTown late = withEggs("b9(1=1)", 60, 60, 60);
+        Checks.law(late, "b9(1=1);p40+y+k+r+m+a+c+o+i(1=1)");
+        due("an egg is asked", late.egg(0, 6), 9);
+        due("nothing of it in p", hoards(late, 0, 41, 42), 1);
+        due("nobody sells", hoards(late, 1, 41, 42), 0);
         due("but the day", hoards(town("pd*99(1=1)"), 1, 1, 1), 0);
         EggTown none = town("p50(n=1&1<0);p10(n=1);p20(n=2)");
         due("a ring: who gains", hoards(none, 0, 15, 15), 2);
@@ -879,6 +910,7 @@ public final class PromisesTest {
         due("30 more: two ways", yolks(x, 90, 0, 0, 1, 2), 2);
         due("the first", yolks(x, 90, 1, 0, 1, 2), 3);
         due("bits as told", yolks(x, 90, 1, 2, 0, 1), 1);
+        due("the least bits", yolks(x, 110, 1, 0, 4, 1, 2), 12);
         due("all double", yolks(x, 120, 1, 0, 1, 2), 7);
         due("no set", yolks(x, 65, 1, 0, 1, 2), -2);
         due("no set: 0", yolks(x, 65, 0, 0, 1, 2), 0);
@@ -915,6 +947,11 @@ public final class PromisesTest {
         due("given all", x.thefts(0), 9);
         due("the lowest", x.thefts(10), 0);
         due("three have some", x.thefts(11), 3);
+        EggTown one = withEggs("h1(1=1)", 60, 60);
+        Checks.acts(one, "0*,0>1,0*,0.,1.");
+        due("0 has one more", one.thefts(0), 1);
+        due("1, too", one.thefts(1), 1);
+        due("one is some", one.thefts(10), 0);
         due("not told", x.thefts(2), NO_THEFT);
         due("8", x.thefts(8), NO_THEFT);
         due("9", x.thefts(9), NO_THEFT);
@@ -941,6 +978,9 @@ public final class PromisesTest {
         Checks.acts(x, "0.");
         due("bits of whole ones", x.baskets(0, 60, 1), 4);
         due("nothing changed", x.count(2), 5);
+        EggTown like = withEggs("", 10, 10, 20);
+        due("two of two eggs", like.baskets(0, 30, 0), 2);
+        due("the least bits of them", like.baskets(0, 30, 1), 5);
         EggTown y = withEggs("", 1, 1, 1, 1, 1, 1, 1, 1, 1, 1, 1, 1, 5);
         due("the lowest 12", y.baskets(0, 5, 0), 792);
         due("the first five", y.baskets(0, 5, 1), 31);
@@ -1005,6 +1045,7 @@ public final class PromisesTest {
         EggTown z = town("l1(1=1);tm(d=60);f10(d<59)");
         z.work(0, 1, 0, 0);
         due("60 days", z.soonest(0, 0), 60);
+        due("who in 60 days", z.soonest(0, 8), 0);
         Checks.law(z, "l1(1=1);tm(d=61);f10(d<59)");
         due("61 are too many", z.soonest(0, 0), -2);
         due("nobody", z.soonest(0, 8), -2);
@@ -1062,49 +1103,87 @@ public final class PromisesTest {
         due("the draw", x.egg(0, 0), nextX(nextX(65535)) % 10);
     }
 
-    private static void promise28And29() {
-        EggTown x = withEggs("h9(1=1);tm(1=1)", 60, 50, 40);
+    /** All that can be asked of a town but THE LAW, in one row. */
+    private static int[] all(EggTown x) {
+        int[] row = new int[11 + 16 + 48 * 6 + 8 * 13];
+        int at = 0;
+        for (int what = 0; what < 11; what++) {
+            row[at++] = what == 5 ? 0 : x.count(what);
+        }
+        for (int k = 0; k < 8; k++) {
+            row[at++] = x.count(20 + k);
+            row[at++] = x.count(30 + k);
+            for (int what = 0; what < 7; what++) {
+                row[at++] = x.personIs(k, what);
+            }
+            for (int what = 0; what < 6; what++) {
+                row[at++] = x.workIs(k, what);
+            }
+        }
+        for (int i = 0; i < 48; i++) {
+            for (int what = 0; what < 6; what++) {
+                row[at++] = x.egg(i, what);
+            }
+        }
+        return row;
+    }
+
+    /** The same calls on both: what one of them does further and undoes must leave no trace. */
+    private static EggTown busy() {
+        EggTown x = withEggs("h9(1=1);tm(1=1);l33(1=1)", 60, 50, 40, 30, 20);
+        x.hen(4, 2, 1);
         x.work(0, 100, 3, 5);
-        Checks.acts(x, "2.");
-        x.feed('0' << 24 | '.' << 16, 0, 0, 0, 0);
-        due("keep()", x.keep(), 2);
-        due("the tape is still there", x.acts(2), 1);
-        Checks.acts(x, "1*,1>1,1!0");
+        x.work(1, 20, 4, 6);
+        x.days(2);
+        Checks.acts(x, "2.,1*,1>1,3!0,6>0,4!1");
+        x.feed('0' << 24 | '.' << 16, 7, 7, 7, 7);
+        return x;
+    }
+
+    private static void stir(EggTown x) {
+        x.check(0);
+        x.days(1);
+        Checks.acts(x, "0*,0>1,0!0,1>0,1*,6.,(5+7)!0,8>0");
         x.person(4);
         x.hen(3, 2, 4);
         x.hen(0, 3, 4);
+        x.fox(4);
+        x.work(1, 7, 8, 9);
         x.work(5, 1, 1, 1);
-        x.days(4);
-        x.seed(9);
         x.clean();
+        x.days(9);
+        x.seed(9);
+        Checks.acts(x, "0!5,(2+3)*");
+    }
+
+    private static void promise28And29() {
+        due("none was KEPT", new EggTown().undo(), false);
+        EggTown x = busy();
+        int[] want = all(busy());
+        due("keep()", x.keep(), x.count(2));
+        stir(x);
         Checks.law(x, "l5(1=1)");
         due("undo()", x.undo(), true);
-        due("the day", x.count(0), 3);
-        due("eggs", x.count(1), 3);
-        due("whole", x.count(2), 2);
-        due("broken", x.count(3), 1);
+        due("all but THE LAW", java.util.Arrays.equals(all(x), want), true);
         due("THE LAW is as it is", x.count(5), 1);
-        due("the tape, too, is kept", x.count(6), 20);
-        due("X", x.count(7), nextX(nextX(nextX(nextX(nextX(nextX(1)))))));
-        due("people", x.count(8), 3);
-        due("hens", x.count(9), 1);
-        due("works", x.count(10), 1);
-        due("kind", x.count(20), 1);
-        due("owner", x.count(30), 0);
-        due("lived", x.personIs(0, 0), 40);
-        due("given", x.personIs(0, 3), 0);
-        due("work", x.workIs(0, 1), 0);
-        due("brooded", x.egg(1, 4), 0);
-        due("minutes", x.egg(1, 0), 50);
-        x.days(1);
-        due("and again", x.undo(), true);
-        due("the day", x.count(0), 3);
-        due("the tape can be used", x.acts(2), 1);
-        due("keep() anew", x.keep(), 1);
-        x.days(1);
-        x.undo();
-        due("as it was KEPT last", x.count(2), 1);
-        due("none was KEPT", new EggTown().undo(), false);
+        EggTown y = busy();
+        y.keep();
+        stir(y);
+        y.undo();
+        stir(y);
+        due("and again", y.undo(), true);
+        due("all again", java.util.Arrays.equals(all(y), want), true);
+        due("the tape, too", y.count(6), 20);
+        due("the tape can be used", y.acts(2), 1);
+        int whole = y.count(2);
+        due("keep() anew", y.keep(), whole);
+        y.days(1);
+        y.undo();
+        due("as it was KEPT last", y.count(2), whole);
+        due("the work's kept day", y.workIs(1, 5), 0);
+        EggTown z = busy();
+        z.days(5);
+        due("was done on day 7, not by 6", z.workIs(1, 5), 0);
     }
 
     private static int check(EggTown x, int... numbers) {
