@@ -50,32 +50,6 @@ public final class PromisesTest {
         Checks.due(call, got, want);
     }
 
-    /** Two people, hen 0 of kind 1 owned by person 0, and a law. */
-    private static EggTown town(String law) {
-        EggTown x = new EggTown();
-        x.person(0);
-        x.person(1);
-        x.hen(0, 1, 0);
-        Checks.law(x, law);
-        return x;
-    }
-
-    /** A town whose person 0 has whole eggs of just these minutes: each day's number picks them. */
-    private static EggTown withEggs(String more, int... minutes) {
-        StringBuilder law = new StringBuilder();
-        for (int k = 0; k < minutes.length; k++) {
-            law.append(k == 0 ? "" : ";").append("l").append(minutes[k]).append("(d=").append(k).append(")");
-        }
-        law.append(more.isEmpty() ? "" : ";").append(more);
-        EggTown x = town(law.toString());
-        x.days(minutes.length);
-        return x;
-    }
-
-    private static int nextX(int x) {
-        return (int) ((25173L * x + 13849) % 65536);
-    }
-
     private static void promise1() {
         EggTown x = new EggTown();
         for (int what = 0; what <= 10; what++) {
@@ -130,7 +104,7 @@ public final class PromisesTest {
     }
 
     private static void promise4() {
-        EggTown x = town("l30(1=1);tk(1=1)");
+        EggTown x = Towns.town("l30(1=1);tk(1=1)");
         due("fox(1)", x.fox(1), false);
         due("fox(8)", x.fox(8), false);
         due("fox(-1)", x.fox(-1), false);
@@ -144,7 +118,7 @@ public final class PromisesTest {
         x.work(0, 50, 1, 9);
         Checks.acts(x, "0!0");
         due("the kind as it was last", x.workIs(0, 1), 1);
-        EggTown y = town("l30(1=1);tk(1=1)");
+        EggTown y = Towns.town("l30(1=1);tk(1=1)");
         y.days(1);
         y.hen(0, 3, 1);
         y.work(0, 50, 1, 9);
@@ -154,7 +128,7 @@ public final class PromisesTest {
     }
 
     private static void promise5() {
-        EggTown x = town("l60(1=1);tm(1=1)");
+        EggTown x = Towns.town("l60(1=1);tm(1=1)");
         due("work", x.work(0, 1, 0, 0), true);
         due("work high", x.work(7, 999, 999, 9999), true);
         due("work(8)", x.work(8, 1, 0, 0), false);
@@ -179,7 +153,7 @@ public final class PromisesTest {
     }
 
     private static void promise6() {
-        EggTown x = withEggs("", 10, 20, 30, 40, 50);
+        EggTown x = Towns.withEggs("", 10, 20, 30, 40, 50);
         due("clean, all whole", x.clean(), 0);
         due("acts", Checks.acts(x, "0.,2*,3."), 3);
         due("clean", x.clean(), 2);
@@ -197,7 +171,7 @@ public final class PromisesTest {
         due("next egg", x.days(1), 1);
         due("its number", x.egg(3, 0), 7);
         due("not brooded", x.egg(3, 4), 0);
-        EggTown y = town("l5(1=1)");
+        EggTown y = Towns.town("l5(1=1)");
         due("60 days, 48 eggs", y.days(60), 48);
         Checks.acts(y, "(0+1+2).");
         due("gone ones are not used again", y.days(1), 0);
@@ -206,7 +180,7 @@ public final class PromisesTest {
     }
 
     private static void promise7() {
-        EggTown x = town("l1(1=1)");
+        EggTown x = Towns.town("l1(1=1)");
         due("feed", x.feed(0x01020304, 0x05060708, 0, 0, 0xFFFFFFFF), 20);
         due("bytes", x.count(6), 20);
         for (int k = 2; k <= 13; k++) {
@@ -246,7 +220,7 @@ public final class PromisesTest {
         Checks.feed(x, new int[260]);
         due("241 bytes", x.law(241), -1);
         due("the tape stays", x.count(6), 260);
-        EggTown y = town("l60(1=1);l70(1=1);l80(d=0)");
+        EggTown y = Towns.town("l60(1=1);l70(1=1);l80(d=0)");
         y.days(1);
         due("the first that holds", y.egg(0, 0), 60);
         Checks.law(y, "b9(1=1)");
@@ -268,7 +242,7 @@ public final class PromisesTest {
     }
 
     private static void promise8Reckoning() {
-        int r = nextX(nextX(1)) % 10;
+        int r = Towns.nextX(Towns.nextX(1)) % 10;
         due("d", lays("d", "1=1"), 10);
         due("w", lays("w", "1=1"), 3);
         due("y", lays("y", "1=1"), 2);
@@ -368,7 +342,7 @@ public final class PromisesTest {
     }
 
     private static void promise9() {
-        EggTown x = withEggs("h10+c(1=1);tm/2(1=1);h99(1=1)", 60, 50, 40, 30, 20);
+        EggTown x = Towns.withEggs("h10+c(1=1);tm/2(1=1);h99(1=1)", 60, 50, 40, 30, 20);
         due("given", Checks.acts(x, "0>1"), 1);
         due("owner", x.egg(0, 3), 1);
         due("given by", x.personIs(0, 3), 60);
@@ -395,7 +369,7 @@ public final class PromisesTest {
         due("its needs at most", x.workIs(3, 1), 30);
         due("the owner of the egg lived", x.personIs(1, 0), 60);
         due("both broken", x.count(3), 5);
-        EggTown y = withEggs("h60(1=1);tm(1=1)", 200, 9);
+        EggTown y = Towns.withEggs("h60(1=1);tm(1=1)", 200, 9);
         due("ten times", Checks.acts(y, "0*,0*,0*,0*,0*,0*,0*,0*,0*,0*"), 9);
         due("240 at most", y.egg(0, 0), 240);
         due("9 times at most", y.egg(0, 4), 9);
@@ -418,7 +392,7 @@ public final class PromisesTest {
     }
 
     private static void actsFault(String text, int kind, int place) {
-        EggTown x = withEggs("", 10, 10);
+        EggTown x = Towns.withEggs("", 10, 10);
         due("acts " + text, Checks.acts(x, text), -1000 * kind - place);
         due("nothing is done: " + text, x.count(2), 2);
         due("judged " + text, Checks.judged(x, text), -1000 * kind - place);
@@ -461,7 +435,7 @@ public final class PromisesTest {
         for (int k = 1; k < 24; k++) {
             b.append(",0*");
         }
-        EggTown x = withEggs("", 10);
+        EggTown x = Towns.withEggs("", 10);
         due("24 lines", Checks.acts(x, b.toString()), 9);
         actsFault(b + ",0", 4, 72);
         actsFault(b + ",(", 4, 72);
@@ -470,7 +444,7 @@ public final class PromisesTest {
     }
 
     private static void promise10() {
-        EggTown x = withEggs("h5(1=1);tm(1=1)", 60, 50, 40);
+        EggTown x = Towns.withEggs("h5(1=1);tm(1=1)", 60, 50, 40);
         x.work(0, 50, 1, 9);
         due("all can", Checks.judged(x, "0*,0>1,0.,(1+2)."), 4);
         due("the third can't", Checks.judged(x, "0.,1.,0*,2."), 2);
@@ -490,7 +464,7 @@ public final class PromisesTest {
     }
 
     private static void promise11() {
-        EggTown x = town("l60(1=1)");
+        EggTown x = Towns.town("l60(1=1)");
         x.hen(3, 2, 1);
         due("n 0", x.days(0), -1);
         due("n 61", x.days(61), -1);
@@ -503,13 +477,13 @@ public final class PromisesTest {
         due("laid for it", x.personIs(1, 1), 120);
         int seed = 1;
         for (int k = 0; k < 8; k++) {
-            seed = nextX(seed);
+            seed = Towns.nextX(seed);
         }
         due("two draws a hen that lays", x.count(7), seed);
         Checks.law(x, "l60(1=1);f10(y=0)");
         due("hen 0 strikes", x.days(1), 1);
         for (int k = 0; k < 3; k++) {
-            seed = nextX(seed);
+            seed = Towns.nextX(seed);
         }
         due("one draw if it strikes", x.count(7), seed);
         strikesByDraws();
@@ -519,16 +493,16 @@ public final class PromisesTest {
     }
 
     private static void strikesByDraws() {
-        EggTown x = town("f4(1=1);lr(1=1)");
+        EggTown x = Towns.town("f4(1=1);lr(1=1)");
         x.seed(777);
         int seed = 777;
         int eggs = 0;
         for (int day = 0; day < 40; day++) {
-            seed = nextX(seed);
+            seed = Towns.nextX(seed);
             boolean lays = seed % 10 >= 4;
             due("lays on day " + day, x.days(1), lays ? 1 : 0);
             if (lays) {
-                seed = nextX(seed);
+                seed = Towns.nextX(seed);
                 due("by the other draw", x.egg(eggs, 0), seed % 10);
                 eggs++;
             }
@@ -536,11 +510,11 @@ public final class PromisesTest {
     }
 
     private static void noEggLeft() {
-        EggTown x = town("l5(1=1)");
+        EggTown x = Towns.town("l5(1=1)");
         due("48 eggs", x.days(60), 48);
         int seed = 1;
         for (int k = 0; k < 2 * 48 + 12; k++) {
-            seed = nextX(seed);
+            seed = Towns.nextX(seed);
         }
         due("then one draw a day", x.count(7), seed);
         due("laid for it", x.personIs(0, 1), 48 * 5);
@@ -548,7 +522,7 @@ public final class PromisesTest {
     }
 
     private static void goesBad() {
-        EggTown x = town("l5(1=1);b2(1=1)");
+        EggTown x = Towns.town("l5(1=1);b2(1=1)");
         x.days(2);
         due("none yet", x.count(4), 0);
         x.days(1);
@@ -558,10 +532,10 @@ public final class PromisesTest {
         x.days(1);
         due("three, by the law as it is", x.count(4), 3);
         due("the one of that day is 0 days old", x.egg(3, 5), 0);
-        EggTown y = town("l5(1=1)");
+        EggTown y = Towns.town("l5(1=1)");
         y.days(40);
         due("b 0: never", y.count(4), 0);
-        EggTown z = town("l5(1=1);b100(a>2)");
+        EggTown z = Towns.town("l5(1=1);b100(a>2)");
         z.days(60);
         due("99 at most, not so soon", z.count(4), 0);
         z.days(41);
@@ -588,11 +562,11 @@ public final class PromisesTest {
     }
 
     private static void promise12() {
-        EggTown x = town("l60(r<5);l30(1=1);f4(1=1);b2(1=1)");
+        EggTown x = Towns.town("l60(r<5);l30(1=1);f4(1=1);b2(1=1)");
         x.hen(5, 0, 1);
         x.days(3);
         int[] want = new int[5];
-        EggTown y = town("l60(r<5);l30(1=1);f4(1=1);b2(1=1)");
+        EggTown y = Towns.town("l60(r<5);l30(1=1);f4(1=1);b2(1=1)");
         y.hen(5, 0, 1);
         y.days(3);
         int bad = y.count(4);
@@ -614,12 +588,12 @@ public final class PromisesTest {
         due("n 61", x.tried(61, 0), -1);
         due("what 5", x.tried(1, 5), -1);
         due("what -1", x.tried(1, -1), -1);
-        due("none left: strikes only", town("f10(1=1)").tried(60, 3), 60);
-        due("none left", town("").tried(60, 0), 48);
+        due("none left: strikes only", Towns.town("f10(1=1)").tried(60, 3), 60);
+        due("none left", Towns.town("").tried(60, 0), 48);
     }
 
     private static void promise13() {
-        EggTown x = town("l60(1=1);b3+a(1=1);h7(1=1)");
+        EggTown x = Towns.town("l60(1=1);b3+a(1=1);h7(1=1)");
         x.days(2);
         x.hen(0, 1, 1);
         x.days(1);
@@ -646,7 +620,7 @@ public final class PromisesTest {
     }
 
     private static void promise14() {
-        EggTown x = withEggs("h9(1=1)", 60, 50, 40, 30);
+        EggTown x = Towns.withEggs("h9(1=1)", 60, 50, 40, 30);
         x.hen(4, 0, 0);
         x.hen(5, 0, 1);
         Checks.acts(x, "0>1,1>1,1>0,2.,3*");
@@ -666,7 +640,7 @@ public final class PromisesTest {
     }
 
     private static void promise15() {
-        EggTown x = withEggs("tm(1=1)", 60, 50, 40);
+        EggTown x = Towns.withEggs("tm(1=1)", 60, 50, 40);
         x.work(0, 100, 7, 3);
         x.work(1, 100, 7, 2);
         int[] want = {100, 0, 7, 3, 0, 1};
@@ -690,7 +664,7 @@ public final class PromisesTest {
     }
 
     private static void promise16() {
-        EggTown x = withEggs("tm(i<7);tm/2(1=1)", 30, 60, 30, 20);
+        EggTown x = Towns.withEggs("tm(i<7);tm/2(1=1)", 30, 60, 30, 20);
         x.work(0, 60, 5, 9);
         x.work(1, 50, 4, 9);
         x.work(2, 141, 99, 9);
@@ -727,7 +701,7 @@ public final class PromisesTest {
         Checks.acts(x, "3!1");
         due("one is done", x.plan(0, 3, 0), -2);
         due("one that is done, what wrong", x.plan(0, 3, 2), -1);
-        EggTown few = withEggs("tm(1=1)", 30, 30, 60, 5);
+        EggTown few = Towns.withEggs("tm(1=1)", 30, 30, 60, 5);
         few.work(0, 60, 5, 9);
         few.work(1, 5, 5, 9);
         due("fewer eggs come ahead of the least row", few.plan(0, 1, 10), 4);
@@ -738,7 +712,7 @@ public final class PromisesTest {
         Checks.acts(few, "2!0");
         due("the first is done", few.plan(0, 3, 0), -2);
         due("nothing changed", x.count(2), 2);
-        EggTown y = withEggs("tm(1=1)", 9, 9, 9, 9, 9, 9, 9, 9, 9, 9, 90);
+        EggTown y = Towns.withEggs("tm(1=1)", 9, 9, 9, 9, 9, 9, 9, 9, 9, 9, 90);
         y.work(0, 91, 1, 9);
         due("the lowest 10 only", y.plan(0, 1, 0), 0);
         y.work(0, 90, 1, 9);
@@ -756,7 +730,7 @@ public final class PromisesTest {
     }
 
     private static void promise17() {
-        EggTown x = withEggs("b4(1=1)", 60, 50, 40, 30);
+        EggTown x = Towns.withEggs("b4(1=1)", 60, 50, 40, 30);
         // THE DAY is 4: egg 0 is bad on it, 1 on 5, 2 on 6, 3 on 7.
         due("each 1", x.before(0, 1, 9), 50 + 40 + 30);
         due("each 1, one day", x.before(0, 1, 1), 50);
@@ -775,7 +749,7 @@ public final class PromisesTest {
         due("not told", x.before(2, 1, 1), -1);
         due("has none", x.before(1, 1, 1), 0);
         due("nothing changed", x.count(2), 4);
-        EggTown y = withEggs("", 11, 12, 61, 51);
+        EggTown y = Towns.withEggs("", 11, 12, 61, 51);
         Checks.law(y, "b5(m<20);b6(m=61);b9(1=1)");
         // bad on 5, 6, 8, 12 and THE DAY is 4.
         due("the later ones give way", y.before(0, 1, 2), 112);
@@ -816,7 +790,7 @@ public final class PromisesTest {
     }
 
     private static void promise19() {
-        EggTown x = withEggs("", 60, 50, 40, 30, 10, 10, 5, 5);
+        EggTown x = Towns.withEggs("", 60, 50, 40, 30, 10, 10, 5, 5);
         due("the least of two", rations(x, 2, 10, 0, 1, 2, 3), 90);
         int[] row = {0, 1, 1, 0};
         for (int k = 0; k < 4; k++) {
@@ -857,7 +831,7 @@ public final class PromisesTest {
     }
 
     private static void promise20() {
-        EggTown x = town("p120/n(1=1)");
+        EggTown x = Towns.town("p120/n(1=1)");
         // So many that sell have 120, 60, 40, 30, 24 each.
         due("one of two", hoards(x, 0, 70, 70), 2);
         due("the lowest", hoards(x, 1, 70, 70), 1);
@@ -871,23 +845,23 @@ public final class PromisesTest {
         due("1000", hoards(x, 0, 60, 1000), -3);
         due("empty then", x.count(6), 0);
         due("999", hoards(x, 0, 60, 999), 1);
-        EggTown y = town("p100(n=2);p0(1=1)");
+        EggTown y = Towns.town("p100(n=2);p0(1=1)");
         due("only two together", hoards(y, 0, 50, 50), 2);
         due("nobody is the lowest", hoards(y, 1, 50, 50), 0);
-        EggTown z = town("pn*30+y+k+r+m+a+c+o+i(1=1)");
+        EggTown z = Towns.town("pn*30+y+k+r+m+a+c+o+i(1=1)");
         due("nothing else is told in p", hoards(z, 1, 30, 60), 0);
         z.days(3);
         Checks.law(z, "pn*30+y+k+r+m+a+c+o+i(1=1)");
         due("nor behind days", hoards(z, 1, 30, 60), 0);
         due("that is so for all rows", hoards(z, 0, 29, 60), 2);
-        EggTown late = withEggs("b9(1=1)", 60, 60, 60);
+        EggTown late = Towns.withEggs("b9(1=1)", 60, 60, 60);
         Checks.law(late, "b9(1=1);p40+y+k+r+m+a+c+o+i(1=1)");
         due("an egg is asked", late.egg(0, 6), 9);
         due("nothing of it in p", hoards(late, 0, 41, 42), 1);
         due("nobody sells", hoards(late, 1, 41, 42), 0);
-        due("but the day", hoards(town("pd*99(1=1)"), 1, 1, 1), 0);
-        EggTown none = town("p50(n=1&1<0);p10(n=1);p20(n=2)");
-        due("a ring: who gains", hoards(none, 0, 15, 15), 2);
+        due("but the day", hoards(Towns.town("pd*99(1=1)"), 1, 1, 1), 0);
+        EggTown none = Towns.town("p50(n=1&1<0);p10(n=1);p20(n=2)");
+        due("both or nobody", hoards(none, 0, 15, 15), 2);
         x.feed(0, 0, 0, 0, 0);
         due("n 1", x.hoards(1, 0), -1);
         due("n 6", x.hoards(6, 0), -1);
@@ -904,7 +878,7 @@ public final class PromisesTest {
     }
 
     private static void promise21() {
-        EggTown x = withEggs("", 10, 20, 30, 40, 0);
+        EggTown x = Towns.withEggs("", 10, 20, 30, 40, 0);
         Checks.acts(x, "(0+1+2+4).");
         due("none double", yolks(x, 60, 1, 0, 1, 2), 0);
         due("30 more: two ways", yolks(x, 90, 0, 0, 1, 2), 2);
@@ -933,7 +907,7 @@ public final class PromisesTest {
     }
 
     private static void promise22() {
-        EggTown x = withEggs("h9(1=1)", 60, 50, 40);
+        EggTown x = Towns.withEggs("h9(1=1)", 60, 50, 40);
         x.person(5);
         due("less: all laid", x.thefts(0), -150);
         due("nobody", x.thefts(10), -2);
@@ -947,7 +921,7 @@ public final class PromisesTest {
         due("given all", x.thefts(0), 9);
         due("the lowest", x.thefts(10), 0);
         due("three have some", x.thefts(11), 3);
-        EggTown one = withEggs("h1(1=1)", 60, 60);
+        EggTown one = Towns.withEggs("h1(1=1)", 60, 60);
         Checks.acts(one, "0*,0>1,0*,0.,1.");
         due("0 has one more", one.thefts(0), 1);
         due("1, too", one.thefts(1), 1);
@@ -960,7 +934,7 @@ public final class PromisesTest {
     }
 
     private static void promise23() {
-        EggTown x = withEggs("", 10, 20, 30, 60, 0, 30);
+        EggTown x = Towns.withEggs("", 10, 20, 30, 60, 0, 30);
         due("none of it, and the empty egg", x.baskets(0, 0, 0), 2);
         due("the first of 0", x.baskets(0, 0, 1), 0);
         due("30", x.baskets(0, 30, 0), 6);
@@ -978,17 +952,17 @@ public final class PromisesTest {
         Checks.acts(x, "0.");
         due("bits of whole ones", x.baskets(0, 60, 1), 4);
         due("nothing changed", x.count(2), 5);
-        EggTown like = withEggs("", 10, 10, 20);
+        EggTown like = Towns.withEggs("", 10, 10, 20);
         due("two of two eggs", like.baskets(0, 30, 0), 2);
         due("the least bits of them", like.baskets(0, 30, 1), 5);
-        EggTown y = withEggs("", 1, 1, 1, 1, 1, 1, 1, 1, 1, 1, 1, 1, 5);
+        EggTown y = Towns.withEggs("", 1, 1, 1, 1, 1, 1, 1, 1, 1, 1, 1, 1, 5);
         due("the lowest 12", y.baskets(0, 5, 0), 792);
         due("the first five", y.baskets(0, 5, 1), 31);
         due("all 12", y.baskets(0, 12, 1), 4095);
     }
 
     private static void promise24() {
-        EggTown x = withEggs("tm(1=1)", 60, 50, 40);
+        EggTown x = Towns.withEggs("tm(1=1)", 60, 50, 40);
         x.work(0, 100, 0, 9);
         due("one day", x.latest(0, 100), 9);
         due("two days", x.latest(0, 99), 8);
@@ -1010,7 +984,7 @@ public final class PromisesTest {
     }
 
     private static void promise25() {
-        EggTown x = withEggs("l10(1=1);tm-a(1=1)", 60, 50);
+        EggTown x = Towns.withEggs("l10(1=1);tm-a(1=1)", 60, 50);
         // THE DAY is 2: t is 58 and 49.
         x.work(0, 107, 0, 0);
         due("now", x.soonest(0, 0), 0);
@@ -1034,15 +1008,15 @@ public final class PromisesTest {
         due("9", x.soonest(1, 9), -1);
         due("-1", x.soonest(-1, 0), -1);
         due("nothing changed", x.count(0), 2);
-        due("no draws", x.count(7), nextX(nextX(nextX(nextX(1)))));
+        due("no draws", x.count(7), Towns.nextX(Towns.nextX(Towns.nextX(Towns.nextX(1)))));
         Checks.acts(x, "0!1");
         due("done", x.soonest(1, 8), -3);
-        EggTown y = town("l1(1=1);tm(1=1)");
+        EggTown y = Towns.town("l1(1=1);tm(1=1)");
         y.work(0, 48, 0, 0);
         due("48 eggs, 48 days", y.soonest(0, 0), 48);
         y.work(0, 49, 0, 0);
         due("no egg is left", y.soonest(0, 0), -2);
-        EggTown z = town("l1(1=1);tm(d=60);f10(d<59)");
+        EggTown z = Towns.town("l1(1=1);tm(d=60);f10(d<59)");
         z.work(0, 1, 0, 0);
         due("60 days", z.soonest(0, 0), 60);
         due("who in 60 days", z.soonest(0, 8), 0);
@@ -1064,7 +1038,7 @@ public final class PromisesTest {
     }
 
     private static void promise26() {
-        EggTown x = withEggs("", 60, 50, 40, 10, 20);
+        EggTown x = Towns.withEggs("", 60, 50, 40, 10, 20);
         Checks.acts(x, "(3+4)>1");
         // 0 has 150, 1 has 30.
         due("40 less, 40 more", x.barter(0, 1, 110, 70, 0), 6);
@@ -1091,7 +1065,7 @@ public final class PromisesTest {
     }
 
     private static void promise27() {
-        EggTown x = town("lr(1=1)");
+        EggTown x = Towns.town("lr(1=1)");
         due("seed(0)", x.seed(0), true);
         due("X", x.count(7), 0);
         due("seed(65535)", x.seed(65535), true);
@@ -1099,38 +1073,13 @@ public final class PromisesTest {
         due("seed(-1)", x.seed(-1), false);
         due("X stays", x.count(7), 65535);
         x.days(1);
-        due("X goes on", x.count(7), nextX(nextX(65535)));
-        due("the draw", x.egg(0, 0), nextX(nextX(65535)) % 10);
-    }
-
-    /** All that can be asked of a town but THE LAW, in one row. */
-    private static int[] all(EggTown x) {
-        int[] row = new int[11 + 16 + 48 * 6 + 8 * 13];
-        int at = 0;
-        for (int what = 0; what < 11; what++) {
-            row[at++] = what == 5 ? 0 : x.count(what);
-        }
-        for (int k = 0; k < 8; k++) {
-            row[at++] = x.count(20 + k);
-            row[at++] = x.count(30 + k);
-            for (int what = 0; what < 7; what++) {
-                row[at++] = x.personIs(k, what);
-            }
-            for (int what = 0; what < 6; what++) {
-                row[at++] = x.workIs(k, what);
-            }
-        }
-        for (int i = 0; i < 48; i++) {
-            for (int what = 0; what < 6; what++) {
-                row[at++] = x.egg(i, what);
-            }
-        }
-        return row;
+        due("X goes on", x.count(7), Towns.nextX(Towns.nextX(65535)));
+        due("the draw", x.egg(0, 0), Towns.nextX(Towns.nextX(65535)) % 10);
     }
 
     /** The same calls on both: what one of them does further and undoes must leave no trace. */
     private static EggTown busy() {
-        EggTown x = withEggs("h9(1=1);tm(1=1);l33(1=1)", 60, 50, 40, 30, 20);
+        EggTown x = Towns.withEggs("h9(1=1);tm(1=1);l33(1=1)", 60, 50, 40, 30, 20);
         x.hen(4, 2, 1);
         x.work(0, 100, 3, 5);
         x.work(1, 20, 4, 6);
@@ -1159,12 +1108,12 @@ public final class PromisesTest {
     private static void promise28And29() {
         due("none was KEPT", new EggTown().undo(), false);
         EggTown x = busy();
-        int[] want = all(busy());
+        int[] want = Towns.all(busy());
         due("keep()", x.keep(), x.count(2));
         stir(x);
         Checks.law(x, "l5(1=1)");
         due("undo()", x.undo(), true);
-        due("all but THE LAW", java.util.Arrays.equals(all(x), want), true);
+        due("all but THE LAW", java.util.Arrays.equals(Towns.all(x), want), true);
         due("THE LAW is as it is", x.count(5), 1);
         EggTown y = busy();
         y.keep();
@@ -1172,7 +1121,7 @@ public final class PromisesTest {
         y.undo();
         stir(y);
         due("and again", y.undo(), true);
-        due("all again", java.util.Arrays.equals(all(y), want), true);
+        due("all again", java.util.Arrays.equals(Towns.all(y), want), true);
         due("the tape, too", y.count(6), 20);
         due("the tape can be used", y.acts(2), 1);
         int whole = y.count(2);
@@ -1196,7 +1145,7 @@ public final class PromisesTest {
     }
 
     private static void promise30() {
-        EggTown x = withEggs("", 60, 50, 240);
+        EggTown x = Towns.withEggs("", 60, 50, 240);
         Checks.acts(x, "1.");
         due("right", check(x, 60, 50, 240, 0, 0), -1);
         due("the first", check(x, 61, 51, 240), 0);
@@ -1223,7 +1172,7 @@ public final class PromisesTest {
     }
 
     private static void promise31() {
-        EggTown x = withEggs("b2(d=3)", 60, 50, 40);
+        EggTown x = Towns.withEggs("b2(d=3)", 60, 50, 40);
         Checks.acts(x, "2.");
         x.hen(7, 3, 1);
         x.days(1);
