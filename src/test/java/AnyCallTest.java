@@ -24,9 +24,13 @@ public final class AnyCallTest {
         calls.sort(Comparator.comparing(Method::getName));
         Random random = new Random(5);
         for (int run = 0; run < 400; run++) {
-            EggTown x = new EggTown();
+            EggTown x = run % 8 == 0 ? Towns.onDay(9990) : new EggTown();
             if (run % 2 == 0) {
                 prepare(x, random);
+            }
+            if (run % 4 == 0) {
+                x.days(6);
+                x.keep();
             }
             for (int k = 0; k < 400; k++) {
                 Method call = calls.get(random.nextInt(calls.size()));

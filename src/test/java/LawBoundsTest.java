@@ -26,11 +26,13 @@ public final class LawBoundsTest {
         sellBounds();
         workBounds();
         firstThatHolds();
+        whatHolds();
         wrapAround();
         dividedByNothing();
         asMuchAsMatters();
         notToldIsNothing();
         kindAsItWasLast();
+        daysAndDaysAgo();
         Checks.end("LawBoundsTest");
     }
 
@@ -356,6 +358,44 @@ public final class LawBoundsTest {
         due("the first below its bound is not passed by", lays("0-3(1=1);l4", "1=1"), 0);
     }
 
+    // "E, one of < > =, and E", "!PIECE", "PARTS with a | between two, one of which must hold; a PART: PIECES with an &
+    // between two, all of which must"
+    private static void whatHolds() {
+        String[] signs = {"<", ">", "="};
+        for (int left = 1; left <= 3; left++) {
+            boolean[] want = {left < 2, left > 2, left == 2};
+            for (int k = 0; k < 3; k++) {
+                String piece = left + signs[k] + "2";
+                Checks.due(piece, holds(piece), want[k]);
+                Checks.due("!" + piece, holds("!" + piece), !want[k]);
+                Checks.due("!!" + piece, holds("!!" + piece), want[k]);
+                Checks.due("!(" + piece + ")", holds("!(" + piece + ")"), !want[k]);
+            }
+        }
+        for (int bits = 0; bits < 16; bits++) {
+            boolean a = (bits & 1) != 0;
+            boolean b = (bits & 2) != 0;
+            boolean c = (bits & 4) != 0;
+            boolean d = (bits & 8) != 0;
+            Checks.due("a&b|c&d", ofFour("a&b|c&d", bits), a && b || c && d);
+            Checks.due("a|b&c|d", ofFour("a|b&c|d", bits), a || b && c || d);
+            Checks.due("a|b|c|d", ofFour("a|b|c|d", bits), bits != 0);
+            Checks.due("a&b&c&d", ofFour("a&b&c&d", bits), bits == 15);
+            Checks.due("(a|b)&(c|d)", ofFour("(a|b)&(c|d)", bits), (a || b) && (c || d));
+            Checks.due("!(a|b)&!(c&d)", ofFour("!(a|b)&!(c&d)", bits), !(a || b) && !(c && d));
+            Checks.due("!a&b|!(c|!d)", ofFour("!a&b|!(c|!d)", bits), !a && b || !(c || !d));
+            Checks.due("(a|(b&(c|d)))", ofFour("(a|(b&(c|d)))", bits), a || b && (c || d));
+        }
+    }
+
+    private static boolean ofFour(String c, int bits) {
+        String text = c;
+        for (int k = 0; k < 4; k++) {
+            text = text.replace("abcd".substring(k, k + 1), (bits >> k & 1) != 0 ? "1=1" : "1=2");
+        }
+        return holds(text);
+    }
+
     // "All is reckoned with 32 bits, as the machine does"
     private static void wrapAround() {
         String least = "[32768*65536]";
@@ -474,6 +514,24 @@ public final class LawBoundsTest {
             Checks.law(x, "f10(" + letter + "=0)");
             due("f if " + letter + " is 0", x.tried(48, 3), 48);
         }
+    }
+
+    // "d THE DAY, w THE DAY modulo 7", "a how many DAYS ago it was laid"
+    private static void daysAndDaysAgo() {
+        EggTown x = Towns.town("l10*w+d(1=1)");
+        x.days(22);
+        for (int day = 0; day < 22; day++) {
+            due("w and d on day " + day, x.egg(day, 0), 10 * (day % 7) + day);
+        }
+        EggTown late = Towns.onDay(9998);
+        late.person(0);
+        late.hen(0, 0, 0);
+        Checks.law(late, "ld-9900(d=9998&w=2)");
+        late.days(1);
+        due("d and w on the last but one", late.egg(0, 0), 98);
+        due("0 days ago: too young for b 1", Towns.town("b1(a=0)").tried(20, 2), 0);
+        due("1 day ago", Towns.town("b1(a=1)").tried(20, 2), 19);
+        due("2 days ago", Towns.town("b1(a=2)").tried(20, 2), 18);
     }
 
     // "k its KIND (as it is, or was last)"

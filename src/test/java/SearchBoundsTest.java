@@ -83,6 +83,13 @@ public final class SearchBoundsTest {
         due("the other's bits", x.plan(1, 1, 10), 0);
         x.work(0, 2, 5, 0);
         due("the other's two", x.plan(1, 1, 10), 3);
+        EggTown halves = Towns.withLikeEggs("tm(1=1)", 11, 9);
+        halves.work(0, 45, 1, 0);
+        halves.work(1, 45, 1, 0);
+        due("five of ten to the one", halves.plan(0, 3, 10), 31);
+        due("five of ten to the other", halves.plan(0, 3, 11), 992);
+        halves.work(1, 46, 1, 0);
+        due("eleven are too many", halves.plan(0, 3, 0), 1);
     }
 
     // "told WORKS (1 to 4)"

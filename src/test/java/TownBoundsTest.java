@@ -225,8 +225,18 @@ public final class TownBoundsTest {
         Checks.law(x, "l9(1=1)");
         x.days(1);
         due("the next number", x.egg(3, 0), 9);
-        due("that one is not brooded", x.egg(3, 4), 0);
-        due("that one is whole", x.egg(3, 5), 0);
+        x.days(2);
+        due("a number whose egg was brooded before", x.egg(5, 4), 0);
+        due("a number whose egg was broken before", x.egg(4, 5), 0);
+        EggTown y = eightHens("l9(1=1)");
+        y.days(1);
+        Checks.acts(y, "(0+1+2+5).");
+        y.clean();
+        int[] hens = {3, 4, 6, 7};
+        for (int i = 0; i < 4; i++) {
+            due("the hen of what was egg " + hens[i], y.egg(i, 2), hens[i]);
+            due("the owner of what was egg " + hens[i], y.egg(i, 3), hens[i]);
+        }
     }
 
     private static void cleanOfAFullTown() {
@@ -299,6 +309,8 @@ public final class TownBoundsTest {
         due("whole on day 99", x.egg(0, 5), 0);
         x.days(1);
         due("bad behind it", x.egg(0, 5), 2);
+        EggTown none = Towns.town("l5(1=1);b1+50*i+50*n+50*r(1=1)");
+        due("no WORK, no DRAW, nobody sells in b", none.tried(9, 2), 8);
         EggTown broken = Towns.town("l5(1=1);b1(1=1)");
         broken.days(1);
         Checks.acts(broken, "0.");
@@ -489,6 +501,7 @@ public final class TownBoundsTest {
         due("the last one", x.count(2), 3);
         due("undone again", x.undo(), true);
         due("the same", x.count(2), 3);
+        keptAll();
         EggTown y = Towns.withLikeEggs("", 48, 5);
         due("all 48", y.keep(), 48);
         Checks.acts(y, "(0+1).");
@@ -496,6 +509,38 @@ public final class TownBoundsTest {
         y.days(1);
         y.undo();
         due("full again", y.days(1), 0);
+    }
+
+    private static EggTown busy() {
+        EggTown x = eightHens("l9+y(1=1);tm(1=1);h3(1=1);b2(y=6)");
+        x.work(3, 20, 5, 4);
+        x.work(4, 500, 6, 9);
+        x.days(4);
+        Checks.acts(x, "0.,1!3,9!3,2>5,(3+4)*,10!4,11>0");
+        x.seed(77);
+        x.feed(1, 2, 3, 4, 5);
+        return x;
+    }
+
+    /** Each thing that a town holds is changed behind keep(), and is as it was behind undo(). */
+    private static void keptAll() {
+        EggTown x = busy();
+        int[] want = Towns.all(x);
+        x.keep();
+        x.check(0);
+        for (int y = 0; y < 7; y++) {
+            x.hen(y, 3 - y % 4, 7 - y);
+        }
+        x.fox(7);
+        Checks.acts(x, "12.,13!4,14>2,15*,16>7,(17+18)!4,2>1,3>0,11*");
+        x.clean();
+        x.days(9);
+        x.work(3, 7, 8, 9);
+        x.work(4, 1, 1, 1);
+        x.work(5, 1, 1, 1);
+        Checks.acts(x, "0>1,1>2,2!4,3!3,4*,5*,6.");
+        due("undone", x.undo(), true);
+        due("all of it", Arrays.equals(Towns.all(x), want), true);
     }
 
     // "KEPT: all but THE LAW"
