@@ -590,7 +590,8 @@ public final class EggTown {
             if (trial.works.isDone(i)) {
                 return days;
             }
-            if (days < most && !trial.passDay(ruling)) {
+            // All its eggs are broken: without a hen that can lay there is no use in waiting.
+            if (!trial.canLayFor(p) || days < most && !trial.passDay(ruling)) {
                 return NOT_SO;
             }
         }
@@ -1031,6 +1032,10 @@ public final class EggTown {
             }
             day++;
             return true;
+        }
+
+        boolean canLayFor(int p) {
+            return eggs.size < EGGS_MOST && hens.howManyOf(p) > 0;
         }
 
         private int draw() {
