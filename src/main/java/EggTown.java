@@ -74,6 +74,8 @@ public final class EggTown {
     private static final int PLAN_WORKS = 4;
     // No more than 252 sets of ten eggs can stand with none of them inside another.
     private static final int PLAN_SETS = 252;
+    private static final int PLAN_HOPES = 11;
+    private static final int PLAN_WEIGHT = 16;
     private static final int BASKET_EGGS = 12;
     private static final int YOLK_EGGS = 10;
     private static final int BEFORE_DAYS = 40;
@@ -327,9 +329,9 @@ public final class EggTown {
         }
         planning.find(now, ruling, p, works);
         if (what == 0) {
-            return planning.bestWorth;
+            return planning.bestWorth();
         }
-        return what == 1 ? planning.bestEggs : planning.rowOf(what - 10);
+        return what == 1 ? planning.bestEggs() : planning.rowOf(what - 10);
     }
 
     public int before(int p, int each, int n) {
@@ -1551,8 +1553,6 @@ public final class EggTown {
 
     /** Which eggs for which works: only sets that lose a work with each egg that is left out come in question. */
     private static final class Plan {
-        int bestWorth = 0;
-        int bestEggs = 0;
         private final int[] eggs = new int[PLAN_EGGS];
         private final int[] towards = new int[PLAN_EGGS];
         private int size = 0;
@@ -1562,25 +1562,25 @@ public final class EggTown {
         private final int[] fit = new int[PLAN_WORKS * PLAN_SETS];
         private final int[] fits = new int[PLAN_WORKS];
         private final int[] fewest = new int[PLAN_WORKS];
+        private final int[] hope = new int[(PLAN_WORKS + 1) * PLAN_HOPES];
         private final int[] row = new int[PLAN_WORKS];
         private final int[] bestRow = new int[PLAN_WORKS];
+        private int best = NONE;
 
         void find(Town town, Law law, int p, int asked) {
             size = town.eggs.wholeOf(p, eggs, PLAN_EGGS);
             works = 0;
-            int inAll = 0;
             for (int i = 0; i < PLACES && works < PLAN_WORKS; i++) {
                 if (isIn(asked, i)) {
                     numbers[works] = i;
                     worth[works] = town.works.worth[i];
-                    inAll += town.works.worth[i];
                     findFits(town, law, i);
                     works++;
                 }
             }
-            bestWorth = NONE;
-            bestEggs = 0;
-            choose(0, (1 << size) - 1, 0, inAll, 0);
+            findHopes();
+            best = NONE;
+            choose(0, (1 << size) - 1, 0);
         }
 
         private void findFits(Town town, Law law, int work) {
@@ -1589,7 +1589,7 @@ public final class EggTown {
                 towards[k] = law.ofEgg(TOWARDS, town, eggs[k], work);
             }
             fits[works] = 0;
-            fewest[works] = PLAN_EGGS;
+            fewest[works] = PLAN_EGGS + 1;
             for (int bits = 1; bits < 1 << size; bits++) {
                 if (isFit(bits, missing) && fits[works] < PLAN_SETS) {
                     fit[works * PLAN_SETS + fits[works]] = bits;
@@ -1611,29 +1611,53 @@ public final class EggTown {
             return sum >= missing && sum - least < missing;
         }
 
-        // Rows come from the least one on, so that the first of like ones stays; hoped is worth at the most.
-        private void choose(int k, int free, int had, int hoped, int used) {
-            if (hoped < bestWorth || hoped == bestWorth && used >= bestEggs) {
-                return;
+        // What the works from k on can add at the most with so many eggs: as if they never wanted the same ones.
+        private void findHopes() {
+            for (int free = 0; free <= PLAN_EGGS; free++) {
+                hope[works * PLAN_HOPES + free] = 0;
+                for (int k = works - 1; k >= 0; k--) {
+                    int next = (k + 1) * PLAN_HOPES;
+                    int left = free - fewest[k];
+                    int more = left < 0 ? 0 : gain(k, fewest[k]) + hope[next + left];
+                    hope[k * PLAN_HOPES + free] = Math.max(hope[next + free], more);
+                }
             }
+        }
+
+        // One number for both: a worth of one more outweighs all the eggs that it may cost.
+        private int gain(int k, int cost) {
+            return worth[k] * PLAN_WEIGHT - cost;
+        }
+
+        // Rows come from the least one on, so that the first of like ones stays.
+        private void choose(int k, int free, int had) {
             if (k >= works || k >= PLAN_WORKS) {
-                bestWorth = had;
-                bestEggs = used;
-                System.arraycopy(row, 0, bestRow, 0, PLAN_WORKS);
+                if (had > best) {
+                    best = had;
+                    System.arraycopy(row, 0, bestRow, 0, PLAN_WORKS);
+                }
                 return;
             }
             row[k] = 0;
-            choose(k + 1, free, had, hoped - worth[k], used);
-            if (Integer.bitCount(free) < fewest[k]) {
-                return;
+            int hoped = had + hope[k * PLAN_HOPES + Integer.bitCount(free)];
+            if (hoped > best) {
+                choose(k + 1, free, had);
             }
-            for (int j = 0; j < fits[k]; j++) {
+            for (int j = 0; j < fits[k] && hoped > best; j++) {
                 int bits = fit[k * PLAN_SETS + j];
                 if ((bits & ~free) == 0) {
                     row[k] = bits;
-                    choose(k + 1, free & ~bits, had + worth[k], hoped, used + Integer.bitCount(bits));
+                    choose(k + 1, free & ~bits, had + gain(k, Integer.bitCount(bits)));
                 }
             }
+        }
+
+        int bestWorth() {
+            return (best + PLAN_EGGS) / PLAN_WEIGHT;
+        }
+
+        int bestEggs() {
+            return bestWorth() * PLAN_WEIGHT - best;
         }
 
         int rowOf(int work) {

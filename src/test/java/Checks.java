@@ -1,7 +1,7 @@
 /** Counts the answers that are not as due, and feeds texts and rows of bytes. */
 final class Checks {
     static int wrong = 0;
-    static int asked = 0;
+    static long asked = 0;
 
     private Checks() {
     }

@@ -8,6 +8,7 @@ public final class SearchBoundsTest {
     public static void main(String[] args) {
         planOfNothing();
         planOfTenEggs();
+        planOfTheSameEgg();
         planOfFourWorks();
         planOfLikeOnes();
         planOfWorksThatAreDone();
@@ -73,6 +74,9 @@ public final class SearchBoundsTest {
         EggTown x = Towns.withEggs("tm(1=1)", 1, 1, 1, 1, 1, 1, 1, 1, 1, 1, 200, 200);
         x.work(0, 10, 5, 0);
         due("all ten", x.plan(0, 1, 10), 1023);
+        x.work(0, 10, 1, 0);
+        due("a WORTH of 1 is worth all ten", x.plan(0, 1, 0), 1);
+        due("ten EGGS", x.plan(0, 1, 1), 10);
         x.work(0, 11, 5, 0);
         due("not the eleventh", x.plan(0, 1, 0), 0);
         Checks.acts(x, "(0+3).");
@@ -90,6 +94,26 @@ public final class SearchBoundsTest {
         due("five of ten to the other", halves.plan(0, 3, 11), 992);
         halves.work(1, 46, 1, 0);
         due("eleven are too many", halves.plan(0, 3, 0), 1);
+    }
+
+    // "each EGG to one WORK at most": four works for each of which the one large egg would do
+    private static void planOfTheSameEgg() {
+        EggTown x = Towns.withEggs("tm(1=1)", 10, 10, 10, 10, 10, 10, 10, 10, 10, 100);
+        for (int i = 0; i < 4; i++) {
+            x.work(i, 30 + 10 * i, 5, 0);
+        }
+        due("three of the four", x.plan(0, 15, 0), 15);
+        due("the large one for that of most EGGS", x.plan(0, 15, 1), 3 + 4 + 1);
+        due("three small ones for 0", x.plan(0, 15, 10), 7);
+        due("four for 1", x.plan(0, 15, 11), 120);
+        due("none for 2", x.plan(0, 15, 12), 0);
+        due("the large one for 3", x.plan(0, 15, 13), 512);
+        x.work(3, 60, 4, 0);
+        due("one of less WORTH is left out", x.plan(0, 15, 13), 0);
+        due("the large one for 2", x.plan(0, 15, 12), 512);
+        x.work(3, 60, 20, 0);
+        due("one of more WORTH has it", x.plan(0, 15, 13), 512);
+        due("more WORTH", x.plan(0, 15, 0), 30);
     }
 
     // "told WORKS (1 to 4)"
